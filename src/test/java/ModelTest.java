@@ -83,7 +83,16 @@ public final class ModelTest {
         }
     }
 
+    /** Every fifth run fills its log first, so that acts laid over it can be more than 64. */
+    private boolean fillsItsLog() {
+        return run % 5 == 0;
+    }
+
     private void crash() {
+        if (fillsItsLog() && model.head(0) - model.head(2) < 60) {
+            actSome();
+            return;
+        }
         int most = model.unacknowledgedBytes();
         int kept = below(3) == 0 ? most : nearly(most + 1);
         same("crash " + kept, () -> log.crash(kept), () -> model.crash(kept));
@@ -111,13 +120,13 @@ public final class ModelTest {
             return;
         }
         int at = model.startOf(below(2) == 0);
-        int longest = 1 + below(25);
-        for (int acts = below(80); acts > 0; acts--) {
+        int longest = 1 + below(fillsItsLog() ? 4 : 25);
+        for (int acts = fillsItsLog() ? 80 : below(80); acts > 0; acts--) {
             int left = model.head(3) - at - 14;
             if (left < 0) {
                 return;
             }
-            int count = left <= 24 && below(2) == 0 ? left : Math.min(left, below(longest));
+            int count = left <= 24 && below(4) == 0 ? left : Math.min(left, below(longest));
             long day = below(200) == 0 ? 0x80000000L : below(200) == 0 ? 36501 : below(36501);
             layOver(at, Acts.stored(below(150) == 0 ? 32 : below(32), day, new int[count]));
             at += 14 + count;
