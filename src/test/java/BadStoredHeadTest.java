@@ -69,7 +69,7 @@ public final class BadStoredHeadTest {
         CHECK.refusesIndex("behind a bad act", () -> x.stored(0));
     }
 
-    private static void headAnswers() {
+    private static FindLog withAllHeadsApart() {
         FindLog x = new FindLog();
         x.act(0, 1);
         x.act(0, 2);
@@ -78,18 +78,16 @@ public final class BadStoredHeadTest {
         x.part();
         x.act(1, 3);
         Acts.feedAll(x, 1, 2, 3);
+        return x;
+    }
+
+    private static void headAnswers() {
+        FindLog x = withAllHeadsApart();
         heads("heads", x, 3, 2, 2, 14, 3, 2, 2, 3);
     }
 
     private static void headBehindACut() {
-        FindLog x = new FindLog();
-        x.act(0, 1);
-        x.act(0, 2);
-        x.part();
-        x.cut();
-        x.part();
-        x.act(1, 3);
-        Acts.feedAll(x, 1, 2, 3);
+        FindLog x = withAllHeadsApart();
         x.crash(5);
         heads("behind a cut", x, 3, 2, 2, 5, 3, 2, 2, 3);
         x.tear();
