@@ -1,4 +1,5 @@
 import java.math.BigInteger;
+import java.util.Arrays;
 
 /** Acts as the document stores them, computed apart from the class under test. */
 final class Acts {
@@ -52,6 +53,19 @@ final class Acts {
         for (int b : bytes) {
             log.feed(b);
         }
+    }
+
+    /** Feeds the bytes and makes an act of them: its number. */
+    static int put(FindLog log, int thing, int day, int... bytes) {
+        feedAll(log, bytes);
+        return log.act(thing, day);
+    }
+
+    /** A row of so many times the same byte. */
+    static int[] times(int count, int b) {
+        int[] bytes = new int[count];
+        Arrays.fill(bytes, b);
+        return bytes;
     }
 
     /** Pokes the log, behind a cut, till it has these bytes from a place on. */

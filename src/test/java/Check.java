@@ -36,6 +36,13 @@ final class Check {
         refuses(what, IndexOutOfBoundsException.class, call);
     }
 
+    /** The answers of head(0), head(1), .. that are due. */
+    void heads(String when, FindLog log, int... due) {
+        for (int what = 0; what < due.length; what++) {
+            same(when + ": head " + what, log.head(what), due[what]);
+        }
+    }
+
     /** The call's answer as text; a class below the named exceptions has another name. */
     static String answerOf(Call call) {
         try {

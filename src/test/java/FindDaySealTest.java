@@ -1,67 +1,147 @@
-/** Promises 7 to 9: find, day, seal. */
+/** Promises 7 to 9 (find, day, seal): one test for each sentence. */
 public final class FindDaySealTest {
     private static final Check CHECK = new Check("FindDaySealTest");
 
     public static void main(String[] args) {
-        findAnswersBytes();
-        aShorterActReplacesALongerOne();
-        findRefuses();
-        dayAnswers();
-        sealGoesOn();
-        refusalsBehindACut();
+        findAnswersBytesOfTheLatestAct();
+        findAnswersHowManyBytes();
+        findWithoutAnAct();
+        findRefusesNoThing();
+        findRefusesNoByte();
+        findRefusesBehindACut();
+        dayAnswersThatOfTheLatestAct();
+        dayWithoutAnAct();
+        dayRefusesNoThing();
+        dayRefusesBehindACut();
+        sealAnswers();
+        sealRefusesBehindACut();
         CHECK.end();
     }
 
-    private static void findAnswersBytes() {
+    // Promise 7: "Byte i of a thing's latest act"
+    private static void findAnswersBytesOfTheLatestAct() {
         FindLog x = new FindLog();
-        Acts.feedAll(x, 3, 0, 255);
-        CHECK.same("the pad is no act", x.find(6, FindLog.NONE), FindLog.NONE);
-        x.act(6, 1);
-        CHECK.same("count", x.find(6, FindLog.NONE), 3);
+        Acts.put(x, 6, 1, 3, 0, 255);
         CHECK.same("byte 0", x.find(6, 0), 3);
         CHECK.same("byte 1", x.find(6, 1), 0);
-        CHECK.same("byte 2", x.find(6, 2), 255);
+        CHECK.same("the last byte", x.find(6, 2), 255);
+        Acts.put(x, 6, 0, 8);
+        CHECK.same("of the latest", x.find(6, 0), 8);
+        Acts.put(x, 31, 0, Acts.times(24, 6));
+        CHECK.same("byte 23", x.find(31, 23), 6);
+        CHECK.same("another thing's are its own", x.find(6, 0), 8);
     }
 
-    private static void aShorterActReplacesALongerOne() {
+    // Promise 7: "i = NONE: how many bytes it has"
+    private static void findAnswersHowManyBytes() {
         FindLog x = new FindLog();
-        Acts.feedAll(x, 1, 2, 3, 4);
-        x.act(9, 1);
-        x.feed(8);
-        x.act(9, 0);
-        CHECK.same("count", x.find(9, FindLog.NONE), 1);
-        CHECK.same("byte 0", x.find(9, 0), 8);
-        CHECK.refusesIndex("byte 1 is gone", () -> x.find(9, 1));
-        CHECK.same("an earlier day is the latest act's", x.day(9), 0);
+        x.act(6, 1);
+        CHECK.same("none at all", x.find(6, FindLog.NONE), 0);
+        Acts.put(x, 6, 1, Acts.times(24, 1));
+        CHECK.same("24", x.find(6, FindLog.NONE), 24);
+        Acts.put(x, 6, 1, 5);
+        CHECK.same("the latest has one", x.find(6, FindLog.NONE), 1);
     }
 
-    private static void findRefuses() {
+    // Promise 7: "or NONE without an act"
+    private static void findWithoutAnAct() {
         FindLog x = new FindLog();
-        CHECK.refusesIndex("thing -1", () -> x.find(-1, FindLog.NONE));
-        CHECK.refusesIndex("thing 32", () -> x.find(32, FindLog.NONE));
-        CHECK.refusesIndex("byte 0 without an act", () -> x.find(0, 0));
+        x.feed(1);
+        for (int thing = 0; thing < 32; thing++) {
+            CHECK.same("the pad is no act", x.find(thing, FindLog.NONE), FindLog.NONE);
+        }
+        x.act(1, 0);
+        CHECK.same("another thing's", x.find(0, FindLog.NONE), FindLog.NONE);
+        CHECK.same("another thing's", x.find(2, FindLog.NONE), FindLog.NONE);
+        x.crash(0);
+        x.reopen();
+        CHECK.same("one that is gone", x.find(1, FindLog.NONE), FindLog.NONE);
+    }
+
+    // Promise 7: "IndexOutOfBoundsException: thing"
+    private static void findRefusesNoThing() {
+        FindLog x = new FindLog();
+        Acts.put(x, 0, 0, 1);
+        Acts.put(x, 31, 0, 1);
+        for (int no : new int[] {-1, 32, Integer.MIN_VALUE, Integer.MAX_VALUE}) {
+            CHECK.refusesIndex("count of thing " + no, () -> x.find(no, FindLog.NONE));
+            CHECK.refusesIndex("byte of thing " + no, () -> x.find(no, 0));
+        }
+    }
+
+    // Promise 7: "or there is no such byte"
+    private static void findRefusesNoByte() {
+        FindLog x = new FindLog();
+        CHECK.refusesIndex("without an act", () -> x.find(0, 0));
         x.act(0, 0);
-        CHECK.refusesIndex("byte 0 of an empty act", () -> x.find(0, 0));
-        Acts.feedAll(x, new int[24]);
-        x.act(31, 0);
-        CHECK.same("byte 23", x.find(31, 23), 0);
-        CHECK.refusesIndex("byte 24", () -> x.find(31, 24));
-        CHECK.refusesIndex("byte -2", () -> x.find(31, -2));
-        CHECK.refusesIndex("the least byte", () -> x.find(31, Integer.MIN_VALUE));
-        CHECK.refusesIndex("the greatest byte", () -> x.find(31, Integer.MAX_VALUE));
+        CHECK.refusesIndex("of an empty act", () -> x.find(0, 0));
+        Acts.put(x, 0, 0, Acts.times(24, 1));
+        for (int no : new int[] {24, 25, -2, Integer.MIN_VALUE, Integer.MAX_VALUE}) {
+            CHECK.refusesIndex("byte " + no + " of 24", () -> x.find(0, no));
+        }
+        Acts.put(x, 0, 0, 7);
+        CHECK.refusesIndex("a byte of the former act", () -> x.find(0, 1));
     }
 
-    private static void dayAnswers() {
+    // Promise 7: "IllegalStateException."
+    private static void findRefusesBehindACut() {
         FindLog x = new FindLog();
-        CHECK.same("none", x.day(31), FindLog.NONE);
+        Acts.put(x, 0, 0, 4);
+        x.crash(15);
+        CHECK.refusesState("a byte", () -> x.find(0, 0));
+        CHECK.refusesState("a count", () -> x.find(0, FindLog.NONE));
+        CHECK.refusesState("no thing", () -> x.find(32, 0));
+        CHECK.refusesState("no byte", () -> x.find(0, 1));
+        x.reopen();
+        CHECK.same("opened again", x.find(0, 0), 4);
+    }
+
+    // Promise 8: "The day of a thing's latest act"
+    private static void dayAnswersThatOfTheLatestAct() {
+        FindLog x = new FindLog();
         x.act(31, 36500);
         CHECK.same("the last day", x.day(31), 36500);
-        CHECK.same("another thing's", x.day(30), FindLog.NONE);
-        CHECK.refusesIndex("thing 32", () -> x.day(32));
-        CHECK.refusesIndex("thing -1", () -> x.day(-1));
+        x.act(31, 0);
+        CHECK.same("the latest is of an earlier day", x.day(31), 0);
+        x.act(0, 17);
+        CHECK.same("another thing's", x.day(0), 17);
+        CHECK.same("does not change it", x.day(31), 0);
     }
 
-    private static void sealGoesOn() {
+    // Promise 8: "NONE."
+    private static void dayWithoutAnAct() {
+        FindLog x = new FindLog();
+        x.feed(1);
+        for (int thing = 0; thing < 32; thing++) {
+            CHECK.same("thing " + thing, x.day(thing), FindLog.NONE);
+        }
+        x.act(9, 9);
+        CHECK.same("the thing ahead", x.day(8), FindLog.NONE);
+        CHECK.same("the thing behind", x.day(10), FindLog.NONE);
+        CHECK.same("a thing of its part", x.day(13), FindLog.NONE);
+    }
+
+    // Promise 8: "IndexOutOfBoundsException"
+    private static void dayRefusesNoThing() {
+        FindLog x = new FindLog();
+        for (int no : new int[] {-1, 32, Integer.MIN_VALUE, Integer.MAX_VALUE}) {
+            CHECK.refusesIndex("day of thing " + no, () -> x.day(no));
+        }
+    }
+
+    // Promise 8: "IllegalStateException."
+    private static void dayRefusesBehindACut() {
+        FindLog x = new FindLog();
+        x.act(0, 4);
+        x.crash(14);
+        CHECK.refusesState("day", () -> x.day(0));
+        CHECK.refusesState("no thing", () -> x.day(-1));
+        x.reopen();
+        CHECK.same("opened again", x.day(0), 4);
+    }
+
+    // Promise 9: "The seal."
+    private static void sealAnswers() {
         FindLog x = new FindLog();
         int[] first = Acts.stored(1, 2, 3);
         int[] second = Acts.stored(30, 36500);
@@ -75,23 +155,19 @@ public final class FindDaySealTest {
         x.flush();
         x.part();
         CHECK.same("heads do not change it", x.seal(), Acts.seal(0, first, second));
-        x.act(0, 0);
+        x.act(0, 1);
         x.crash(0);
         x.reopen();
         CHECK.same("without what is gone", x.seal(), Acts.seal(0, first, second));
     }
 
-    private static void refusalsBehindACut() {
+    // Promise 9: "IllegalStateException."
+    private static void sealRefusesBehindACut() {
         FindLog x = new FindLog();
-        x.act(0, 0);
-        x.crash(0);
-        CHECK.refusesState("find", () -> x.find(0, FindLog.NONE));
-        CHECK.refusesState("find of no thing", () -> x.find(32, 0));
-        CHECK.refusesState("day", () -> x.day(0));
-        CHECK.refusesState("day of no thing", () -> x.day(-1));
+        x.act(0, 4);
+        x.crash(14);
         CHECK.refusesState("seal", x::seal);
         x.reopen();
-        CHECK.same("find, opened again", x.find(0, FindLog.NONE), FindLog.NONE);
-        CHECK.same("seal, opened again", x.seal(), 0);
+        CHECK.same("opened again", x.seal(), Acts.seal(0, Acts.stored(0, 4)));
     }
 }
