@@ -113,7 +113,8 @@ public final class CrashTearPokeTest {
         CHECK.same("all acts are there", x.day(0), 2);
     }
 
-    // Promise 11: "(of equal ones the one in use)": with both gone there would be none to open
+    // Promise 11: "(of equal ones the one in use)": equal ones hold the same, so that which of them
+    // it is cannot be seen, but that it is just one of them
     private static void tearTakesOfEqualOnesTheOneInUse() {
         FindLog x = new FindLog();
         x.crash(0);
