@@ -1,6 +1,6 @@
 /**
  * Long runs of calls, chosen by a fixed row of numbers, answered by the class and by Model. They go
- * beyond the 512 calls of the document, as the class has no such bound; all other tests stay below.
+ * beyond the 512 calls of the document, as the class has no such bound; all other tests stay within them.
  */
 public final class ModelTest {
     private static final Check CHECK = new Check("ModelTest");
